@@ -320,6 +320,40 @@ public final class PromisesTest {
             refused("pair after " + puts[k], STATE, () -> y.pair(0));
             refused("join after " + puts[k], STATE, y::join);
         }
+        allThatThereMayBe();
+    }
+
+    /** As many of everything as there may be: columns of NOTs below 32 inputs, all of whose ends are wrong. */
+    private static void allThatThereMayBe() {
+        FailDiagnose x = withInputs(32);
+        for (int net = 32; net < 200; net++) {
+            x.gate(5, net - 32, 0);
+        }
+        x.patterns(64);
+        for (int k = 0; k < 32; k++) {
+            x.pattern(k, k % 2 == 0 ? 0x5555555555555555L : 0xaaaaaaaaaaaaaaaaL);
+            x.fail(x.output(168 + k), -1);
+        }
+        for (int k = 0; k < 40; k++) {
+            x.near(2 * (k % 8), 2 * (k / 8) + 1);
+        }
+        due("run() of all", x.run(), 480);
+        int[] at = {0, 39, 40, 80, 279, 280, 479};
+        int[][] want = {
+            {2, 0, 1, 3968, 64, 1984, 0}, {2, 14, 9, 3968, 64, 1984, 0}, {3, 0, 1, 3968, 64, 1984, 0},
+            {0, 0, -1, 4032, 32, 2016, 0}, {0, 199, -1, 4032, 32, 2016, 0},
+            {1, 0, -1, 4032, 32, 2016, 0}, {1, 199, -1, 4032, 32, 2016, 0},
+        };
+        for (int k = 0; k < at.length; k++) {
+            for (int what = 0; what < 7; what++) {
+                due("suspect(" + at[k] + ", " + what + ")", x.suspect(at[k], what), want[k][what]);
+            }
+        }
+        due("the best pair", x.pair(0) * 1000 + x.pair(1), 80081);
+        due("its sum", x.pair(2), 3968);
+        due("join()", x.join(), 80);
+        due("too many to give", x.share(0), 0);
+        due("row of the last net", x.row(199), 0xaaaaaaaaaaaaaaaaL);
     }
 
     /** Puts something, where it can be by changing nothing. */
@@ -638,6 +672,12 @@ public final class PromisesTest {
         due("the whole", x.area(1, 0), 1000000);
         due("the whole grown", x.area(1, 100), 1440000);
         due("others do not count", x.area(2, 100), 0);
+        FailDiagnose y = withInputs(1);
+        for (int k = 0; k < 60; k++) {
+            y.shape(0, 10 * k, 10 * (59 - k), 10 * k + 11, 10 * (59 - k) + 11);
+        }
+        due("sixty", y.area(0, 0), 60 * 121 - 59);
+        due("sixty, once more", y.common(0, 0, 0), 60 * 121 - 59);
         refused("g = 101", ARGUMENT, () -> x.area(0, 101));
         refused("g = -1", ARGUMENT, () -> x.area(0, -1));
         refused("the net first", INDEX, () -> x.area(3, 101));
