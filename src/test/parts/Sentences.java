@@ -1,0 +1,77 @@
+import java.io.IOException;
+import java.nio.file.Files;
+import java.nio.file.Path;
+import java.util.ArrayList;
+import java.util.LinkedHashMap;
+import java.util.List;
+import java.util.Map;
+import java.util.Set;
+import java.util.TreeSet;
+
+/**
+ * The sentences of the document (or the parts between semicolons), and which of them have a test: a test names
+ * the sentence that it stands for, so that none is forgotten and none is made up.
+ */
+final class Sentences {
+    private final Map<String, List<String>> said = new LinkedHashMap<>();
+    private final Map<String, Set<String>> tested = new LinkedHashMap<>();
+    private String section = "";
+
+    Sentences(Path document) throws IOException {
+        String text = Files.readString(document);
+        for (String part : text.split("(?m)^## ")) {
+            int end = part.indexOf('\n');
+            if (end > 0 && (part.startsWith("Terms") || part.startsWith("Promise "))) {
+                String heading = part.substring(0, end).trim();
+                said.put(heading, sentences(part.substring(end)));
+                tested.put(heading, new TreeSet<>());
+            }
+        }
+    }
+
+    private static List<String> sentences(String text) {
+        String plain = text.replaceAll("(?m)^(```|========).*$", "").replaceAll("\\s+", " ").trim()
+                .replaceAll("^`[^`]*`: ", "");
+        List<String> found = new ArrayList<>();
+        for (String sentence : plain.split("(?<=[^.][.]) (?=[A-Z])")) {
+            for (String part : sentence.split("; ")) {
+                found.add(part.replaceAll("[.]$", ""));
+            }
+        }
+        return found;
+    }
+
+    void section(String heading) {
+        section = heading;
+        if (!said.containsKey(heading)) {
+            Checks.begin(heading);
+            Checks.tell("the document has no such section");
+            said.put(heading, new ArrayList<>());
+            tested.put(heading, new TreeSet<>());
+        }
+    }
+
+    void test(String sentence, Runnable test) {
+        Checks.begin(section + ", \"" + sentence + "\"");
+        if (!said.get(section).contains(sentence)) {
+            Checks.tell("the document does not say this");
+        }
+        tested.get(section).add(sentence);
+        try {
+            test.run();
+        } catch (RuntimeException e) {
+            Checks.tell("ended by " + e + " at " + e.getStackTrace()[0]);
+        }
+    }
+
+    void tellUntested() {
+        for (String heading : said.keySet()) {
+            Checks.begin(heading);
+            for (String sentence : said.get(heading)) {
+                if (!tested.get(heading).contains(sentence)) {
+                    Checks.tell("\"" + sentence + "\" has no test");
+                }
+            }
+        }
+    }
+}
