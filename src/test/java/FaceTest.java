@@ -80,12 +80,34 @@ public final class FaceTest {
             check(Modifier.isPublic(made.getModifiers()) && made.getParameterCount() == 0, "constructor " + made);
         }
         check(c.getDeclaredClasses().length <= 12, "more than twelve classes");
+        sizes(c);
         for (Class<?> inside : c.getDeclaredClasses()) {
+            sizes(inside);
             check(Modifier.isPrivate(inside.getModifiers()), inside + " is private");
             check(Modifier.isStatic(inside.getModifiers()), inside + " is static");
             for (Method m : inside.getDeclaredMethods()) {
                 check(!names.contains(m.getName()), inside + " has a method named " + m.getName());
             }
+        }
+    }
+
+    private static void sizes(Class<?> c) {
+        int fields = 0;
+        for (Field f : c.getDeclaredFields()) {
+            fields += Modifier.isStatic(f.getModifiers()) ? 0 : 1;
+        }
+        check(fields <= 20, c + " has more than twenty fields");
+        for (Method m : c.getDeclaredMethods()) {
+            check(m.getParameterCount() <= 7, c + ": more than seven parameters of " + m.getName());
+        }
+    }
+
+    /** Objects are made with a field or in the constructor of the face alone, so that no call fills the room. */
+    private static void makers(String code) {
+        for (String line : code.split("\n")) {
+            check(!line.contains("new ") || line.contains("throw new ")
+                    || line.matches(" {8}private final \\S+ \\w+ = new .*;")
+                    || line.matches(" {8}\\w+ = new \\w+\\(.*\\);"), "made in a call: " + line);
         }
     }
 
@@ -96,6 +118,7 @@ public final class FaceTest {
             "Random", "nanoTime", "currentTimeMillis", "Thread", "Exact(", "try ", "package ", "static {", "var "}) {
             check(!code.contains(no), "the class has " + no);
         }
+        makers(code);
         check(text.chars().allMatch(c -> c < 128), "the class has plain characters alone");
     }
 

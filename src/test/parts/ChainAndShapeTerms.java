@@ -25,6 +25,7 @@ final class ChainAndShapeTerms {
         s.test(once, ChainAndShapeTerms::shapesThatTouch);
         s.test(once, ChainAndShapeTerms::shapesInsideOthers);
         s.test(once, ChainAndShapeTerms::shapesAroundAHole);
+        s.test(once, ChainAndShapeTerms::shapesInAnyOrder);
         s.test(once, ChainAndShapeTerms::noShapes);
         String both = "that of two nets what both cover";
         s.test(both, ChainAndShapeTerms::twoThatTouch);
@@ -208,6 +209,19 @@ final class ChainAndShapeTerms {
         Checks.due("with a hole", x.area(0, 0), 800);
         Checks.due("the hole is 2 wide", x.area(0, 4), 38 * 38 - 4);
         Checks.due("the hole is gone", x.area(0, 5), 40 * 40);
+    }
+
+    /** Three that overlap: 200, 50 and 75 lie in two of them, 25 of these in all three. */
+    private static void shapesInAnyOrder() {
+        int[][] shapes = {{0, 20, 40, 30}, {10, 10, 30, 40}, {25, 0, 35, 25}};
+        int[][] orders = {{0, 1, 2}, {0, 2, 1}, {1, 0, 2}, {1, 2, 0}, {2, 0, 1}, {2, 1, 0}};
+        for (int[] order : orders) {
+            FailDiagnose x = Chips.inputs(1);
+            for (int k : order) {
+                x.shape(0, shapes[k][0], shapes[k][1], shapes[k][2], shapes[k][3]);
+            }
+            Checks.due("the three in another order", x.area(0, 0), 400 + 600 + 250 - 200 - 50 - 75 + 25);
+        }
     }
 
     private static void noShapes() {
