@@ -15,9 +15,16 @@ import java.util.TreeSet;
 final class Sentences {
     private final Map<String, List<String>> said = new LinkedHashMap<>();
     private final Map<String, Set<String>> tested = new LinkedHashMap<>();
+    private final boolean known;
     private String section = "";
 
+    /** Without the document the tests run all the same, but nothing tells whether they stand for its sentences. */
     Sentences(Path document) throws IOException {
+        known = Files.exists(document);
+        if (!known) {
+            System.out.println("not compared with the document, which is not at " + document);
+            return;
+        }
         String text = Files.readString(document);
         for (String part : text.split("(?m)^## ")) {
             int end = part.indexOf('\n');
@@ -44,8 +51,10 @@ final class Sentences {
     void section(String heading) {
         section = heading;
         if (!said.containsKey(heading)) {
-            Checks.begin(heading);
-            Checks.tell("the document has no such section");
+            if (known) {
+                Checks.begin(heading);
+                Checks.tell("the document has no such section");
+            }
             said.put(heading, new ArrayList<>());
             tested.put(heading, new TreeSet<>());
         }
@@ -53,7 +62,7 @@ final class Sentences {
 
     void test(String sentence, Runnable test) {
         Checks.begin(section + ", \"" + sentence + "\"");
-        if (!said.get(section).contains(sentence)) {
+        if (known && !said.get(section).contains(sentence)) {
             Checks.tell("the document does not say this");
         }
         tested.get(section).add(sentence);
