@@ -8,8 +8,10 @@ import java.nio.file.Path;
 import java.util.List;
 import java.util.Set;
 import java.util.TreeSet;
+import java.util.regex.Matcher;
+import java.util.regex.Pattern;
 
-/** The class has the document's public face and no other, and its text keeps the rules that words can tell. */
+/** The class has the document's public face and no other, and keeps the rules that its text and members tell. */
 public final class FaceTest {
     private static final String[] FACE = {
         "int input() IllegalStateException",
@@ -91,6 +93,22 @@ public final class FaceTest {
         }
     }
 
+    /** The document's own text of the face, if it is there, has the same methods. */
+    private static void faceOfTheDocument() throws IOException {
+        Path document = Path.of("../shared/DOC.md");
+        if (!Files.exists(document)) {
+            System.out.println("the face is not compared with the document, which is not at " + document);
+            return;
+        }
+        Set<String> said = new TreeSet<>();
+        Matcher method = Pattern.compile("(?m)^    public (\\w+ \\w+\\(.*\\).*);$").matcher(Files.readString(document));
+        while (method.find()) {
+            said.add(method.group(1).replace(" throws", "").replace(", I", " I").replaceAll(" \\w+(?=[,)])", "")
+                    .replace(", ", ","));
+        }
+        check(said.equals(new TreeSet<>(List.of(FACE))), "the document's face is " + said);
+    }
+
     private static void sizes(Class<?> c) {
         int fields = 0;
         for (Field f : c.getDeclaredFields()) {
@@ -111,6 +129,36 @@ public final class FaceTest {
         }
     }
 
+    /** Rules 4 and 6: no other part of the library is named, and what is thrown is what the document names. */
+    private static void library(String code) {
+        Set<String> allowed = Set.of("Math.min", "Math.max", "Long.bitCount", "System.arraycopy", "Arrays.fill");
+        Matcher named = Pattern.compile("\\b[A-Z]\\w*\\.[a-z]\\w*").matcher(code);
+        while (named.find()) {
+            check(allowed.contains(named.group()), "the class calls " + named.group());
+        }
+        for (String line : code.split("\n")) {
+            check(!line.startsWith("import ") || line.equals("import java.util.Arrays;"), "the class has " + line);
+            check(!line.contains("throw ")
+                    || line.matches(" *throw new (IndexOutOfBounds|IllegalState|IllegalArgument)Exception\\(\\);"),
+                    "thrown in another way: " + line);
+        }
+    }
+
+    /** Rule 11: a method ends at a brace that stands as far to the right as its first line. */
+    private static void lengths(String code) {
+        String[] lines = code.split("\n");
+        for (int first = 0; first < lines.length; first++) {
+            if (lines[first].matches("( {4}| {8})[a-z][^=;]*\\([^;]*")) {
+                String end = lines[first].replaceAll("\\S.*", "") + "}";
+                int last = first;
+                while (last < lines.length && !lines[last].equals(end)) {
+                    last++;
+                }
+                check(last - first < 60, "longer than 60 lines: " + lines[first]);
+            }
+        }
+    }
+
     private static void words() throws IOException {
         String text = Files.readString(Path.of("src/main/java/FailDiagnose.java"));
         String code = text.replaceAll("(?s)/\\*.*?\\*/", "").replaceAll("//[^\n]*", "").replaceAll("\"[^\"]*\"", "");
@@ -119,11 +167,15 @@ public final class FaceTest {
             check(!code.contains(no), "the class has " + no);
         }
         makers(code);
+        library(code);
+        lengths(code);
         check(text.chars().allMatch(c -> c < 128), "the class has plain characters alone");
     }
 
     public static void main(String[] args) throws IOException {
         members();
+        check(FailDiagnose.NONE == -1, "NONE is -1");
+        faceOfTheDocument();
         words();
         if (wrong != 0) {
             System.exit(1);

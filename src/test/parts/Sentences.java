@@ -28,7 +28,7 @@ final class Sentences {
         String text = Files.readString(document);
         for (String part : text.split("(?m)^## ")) {
             int end = part.indexOf('\n');
-            if (end > 0 && (part.startsWith("Terms") || part.startsWith("Promise "))) {
+            if (end > 0 && part.matches("(?s)(What it is|Terms|Promise ).*")) {
                 String heading = part.substring(0, end).trim();
                 said.put(heading, sentences(part.substring(end)));
                 tested.put(heading, new TreeSet<>());
@@ -36,16 +36,40 @@ final class Sentences {
         }
     }
 
+    /** The heading "1 NETS" stands inside a line of the document, the other ones on lines of their own. */
     private static List<String> sentences(String text) {
-        String plain = text.replaceAll("(?m)^(```|========).*$", "").replaceAll("\\s+", " ").trim()
-                .replaceAll("^`[^`]*`: ", "");
+        String plain = text.replaceAll("(?m)^(```|========).*$", "").replace(" ======== 1 NETS ", "\n\n");
         List<String> found = new ArrayList<>();
-        for (String sentence : plain.split("(?<=[^.][.]) (?=[A-Z])")) {
-            for (String part : sentence.split("; ")) {
-                found.add(part.replaceAll("[.]$", ""));
+        for (String paragraph : plain.split("\n\\s*\n")) {
+            String line = paragraph.replaceAll("\\s+", " ").trim().replaceAll("^`[^`]*`: ", "");
+            if (!line.isEmpty()) {
+                addSentences(line, found);
             }
         }
         return found;
+    }
+
+    private static void addSentences(String line, List<String> found) {
+        for (String sentence : line.split("(?<=[^.][.]) (?=[A-Z])")) {
+            for (String part : sentence.split("; ")) {
+                found.add(part.replaceAll("[.:]$", ""));
+            }
+        }
+    }
+
+    /** The headings of the document that begin so, in their order; none without the document. */
+    List<String> headings(String beginning) {
+        List<String> found = new ArrayList<>();
+        for (String heading : said.keySet()) {
+            if (heading.startsWith(beginning)) {
+                found.add(heading);
+            }
+        }
+        return found;
+    }
+
+    List<String> of(String heading) {
+        return said.get(heading);
     }
 
     void section(String heading) {
